@@ -7,6 +7,7 @@ public final class CellTest {
         edgesAreTaken(checks);
         noRegionEmptiesTheBuffer(checks);
         aFailedCellStaysAsBefore(checks);
+        aCellDefinedAgainIsNew(checks);
         operatorsHoldTheirPoints(checks);
         eightTokensTellARegion(checks);
         theLeastNumberHasThePoint(checks);
@@ -90,6 +91,21 @@ public final class CellTest {
             checks.due("absorptions", bench.tally(0, 2), 1);
             checks.due("fissions", bench.tally(0, 3), 0);
         }
+    }
+
+    private static void aCellDefinedAgainIsNew(Checks checks) {
+        CellTransport bench = Checks.wholePlane(1000, 1000, 0);
+        bench.surface(1, 1, 0, 0, 300);
+        bench.token(1);
+        checks.due("cell again", bench.cell(0, 0, 0, 1000), 1);
+        checks.due("the new region", bench.where(301, 0), Checks.OUTSIDE);
+        bench.run(2);
+        checks.due("no collisions with the new density", bench.tally(0, 1), 0);
+        bench.token(1);
+        bench.cell(0, 1000, 0, 1000);
+        bench.run(1);
+        checks.due("no absorptions with the new shares", bench.tally(0, 2), 0);
+        checks.due("fissions with the new shares", bench.tally(0, 3), 12);
     }
 
     /** Surface 0 holds x at most 0, surface 1 holds y at most 0, surface 2 holds x + y at most 1. */
