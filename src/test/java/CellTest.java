@@ -1,27 +1,30 @@
-/** Promises 4 and 5: cell and undefine, and the regions that tokens tell. */
+import java.util.Arrays;
+
+/** Promise 4: cell. */
 public final class CellTest {
     public static void main(String[] args) {
         Checks checks = new Checks();
         answersWhetherItWasDefined(checks);
-        outOfRangeKeepsTheBuffer(checks);
-        edgesAreTaken(checks);
-        noRegionEmptiesTheBuffer(checks);
-        aFailedCellStaysAsBefore(checks);
+        firstAndLastNumberAreTaken(checks);
+        lastDensitiesAreTaken(checks);
+        lastSharesAreTaken(checks);
+        outOfRangeIsRefused(checks);
+        outOfRangeKeepsABufferThatTellsARegion(checks);
+        outOfRangeKeepsABufferThatTellsNone(checks);
+        outOfRangeKeepsTheCell(checks);
+        theBufferIsEmptiedInAnyCase(checks);
+        noRegionLeavesItUndefined(checks);
+        noRegionLeavesTheCellAsBefore(checks);
         aCellDefinedAgainIsNew(checks);
-        operatorsHoldTheirPoints(checks);
-        eightTokensTellARegion(checks);
-        theLeastNumberHasThePoint(checks);
-        undefineAnswers(checks);
-        countsStayWhenUndefined(checks);
         checks.end();
     }
 
+    /** "1 if the cell was defined before, else 0" */
     private static void answersWhetherItWasDefined(Checks checks) {
         CellTransport bench = new CellTransport();
         for (int number = 0; number < 6; number++) {
             bench.token(0);
             checks.due("cell first", bench.cell(number, 0, 0, 0), 0);
-            checks.due("count(5)", bench.count(5), 0);
             checks.due("count(6)", bench.count(6), number + 1);
             bench.token(0);
             checks.due("cell again", bench.cell(number, 0, 0, 0), 1);
@@ -29,37 +32,110 @@ public final class CellTest {
         }
     }
 
-    private static void outOfRangeKeepsTheBuffer(Checks checks) {
-        int max = Integer.MAX_VALUE;
-        int min = Integer.MIN_VALUE;
-        int[][] wrong = {
-            {-1, 0, 0, 0}, {6, 0, 0, 0}, {max, 0, 0, 0}, {min, 0, 0, 0},
-            {0, -1, 0, 0}, {0, 1001, 0, 0}, {0, max, 0, 0}, {0, min, 0, 0},
-            {0, 0, -1, 0}, {0, 0, 1001, 0}, {0, 0, 0, -1}, {0, 0, 0, 1001}, {0, 0, 1, 1000}, {0, 0, 500, 501},
-            {0, 0, -1, 1001}, {0, 0, 1001, -1}, {0, 0, max, max}, {0, 0, max, 1}, {0, 0, 1, max}, {0, 0, min, min},
-            {0, 0, min, max}, {0, 0, max, min}};
+    /** "the cell (0 .. 5)" */
+    private static void firstAndLastNumberAreTaken(Checks checks) {
+        int[][] due = {{-1, Checks.REFUSED}, {0, 0}, {5, 0}, {6, Checks.REFUSED}};
+        for (int[] row : due) {
+            CellTransport bench = new CellTransport();
+            Checks.everywhere(bench, 0);
+            bench.token(0);
+            checks.due("cell(" + row[0] + ", 0, 0, 0)", bench.cell(row[0], 0, 0, 0), row[1]);
+            checks.due("where", bench.where(0, 0), row[1] == 0 ? row[0] : Checks.OUTSIDE);
+        }
+    }
+
+    /** "density 0 .. 1000": with 0 nothing collides, and with 1000 a budget of 2000 ends at the second step. */
+    private static void lastDensitiesAreTaken(Checks checks) {
+        int start = Checks.stateThatDraws(Checks.direction(0), Checks.budget(2000));
+        int[][] due = {{0, 200, 0}, {1, 200, 0}, {999, 3, 1}, {1000, 2, 1}};
+        for (int[] row : due) {
+            CellTransport bench = new CellTransport();
+            Checks.everywhere(bench, 0);
+            bench.token(0);
+            checks.due("cell of density " + row[0], bench.cell(0, row[0], 1000, 0), 0);
+            bench.seed(start);
+            bench.run(1);
+            checks.tallies(bench, 0, row[1], row[2], row[2], 0);
+        }
+        CellTransport bench = new CellTransport();
+        bench.token(0);
+        checks.due("density -1", bench.cell(0, -1, 0, 0), Checks.REFUSED);
+        checks.due("density 1001", bench.cell(0, 1001, 0, 0), Checks.REFUSED);
+    }
+
+    /** "the shares, each 0 or more and together at most 1000" */
+    private static void lastSharesAreTaken(Checks checks) {
+        int[][] due = {
+            {0, 0, 0}, {1000, 0, 0}, {0, 1000, 0}, {999, 1, 0}, {1, 999, 0}, {500, 500, 0}, {0, 1, 0}, {1, 0, 0},
+            {-1, 0, -1}, {0, -1, -1}, {1001, 0, -1}, {0, 1001, -1}, {1000, 1, -1}, {1, 1000, -1}, {500, 501, -1},
+            {501, 500, -1}, {-1, 1000, -1}, {1000, -1, -1}, {-1, 1001, -1}, {1001, -1, -1}, {-1, -1, -1}};
+        for (int[] row : due) {
+            CellTransport bench = new CellTransport();
+            bench.token(0);
+            checks.due("shares " + row[0] + " and " + row[1], bench.cell(0, 0, row[0], row[1]), row[2]);
+            checks.due("count(6)", bench.count(6), row[2] + 1);
+        }
+    }
+
+    private static final int[][] WRONG = {
+        {-1, 0, 0, 0}, {6, 0, 0, 0}, {Checks.MAX, 0, 0, 0}, {Checks.MIN, 0, 0, 0},
+        {0, -1, 0, 0}, {0, 1001, 0, 0}, {0, Checks.MAX, 0, 0}, {0, Checks.MIN, 0, 0},
+        {0, 0, -1, 0}, {0, 0, 1001, 0}, {0, 0, 0, -1}, {0, 0, 0, 1001}, {0, 0, 1, 1000}, {0, 0, 500, 501},
+        {0, 0, -1, 1001}, {0, 0, 1001, -1}, {0, 0, Checks.MAX, Checks.MAX}, {0, 0, Checks.MAX, 1},
+        {0, 0, 1, Checks.MAX}, {0, 0, Checks.MIN, Checks.MIN}, {0, 0, Checks.MIN, Checks.MAX},
+        {0, 0, Checks.MAX, Checks.MIN}, {0, 0, Checks.MIN, 0}, {0, 0, 0, Checks.MIN}};
+
+    private static int cell(CellTransport bench, int[] row) {
+        return bench.cell(row[0], row[1], row[2], row[3]);
+    }
+
+    /** "Out of range: REFUSED." */
+    private static void outOfRangeIsRefused(Checks checks) {
+        for (int[] row : WRONG) {
+            CellTransport bench = new CellTransport();
+            checks.due("with an empty buffer, cell" + Arrays.toString(row), cell(bench, row), Checks.REFUSED);
+            bench.token(0);
+            checks.due("with a region, cell" + Arrays.toString(row), cell(bench, row), Checks.REFUSED);
+            checks.due("count(6)", bench.count(6), 0);
+        }
+    }
+
+    private static void outOfRangeKeepsABufferThatTellsARegion(Checks checks) {
         CellTransport bench = new CellTransport();
         Checks.everywhere(bench, 0);
-        bench.token(0);
-        for (int[] row : wrong) {
-            checks.due("cell" + java.util.Arrays.toString(row),
-                bench.cell(row[0], row[1], row[2], row[3]), Checks.REFUSED);
-            checks.due("count(5)", bench.count(5), 1);
-            checks.due("count(6)", bench.count(6), 0);
+        Checks.tokens(bench, 0, 10, 10);
+        for (int[] row : WRONG) {
+            cell(bench, row);
+            checks.due("count(5) after cell" + Arrays.toString(row), bench.count(5), 3);
         }
         checks.due("cell after refusals", bench.cell(0, 0, 0, 0), 0);
         checks.due("where", bench.where(0, 0), 0);
-        checks.due("out of range with an empty buffer", bench.cell(0, 0, 0, 1001), Checks.REFUSED);
     }
 
-    private static void edgesAreTaken(Checks checks) {
+    /** "numbers out of range are refused before all else": before the buffer is looked at and emptied. */
+    private static void outOfRangeKeepsABufferThatTellsNone(Checks checks) {
         CellTransport bench = new CellTransport();
-        int[][] taken = {{5, 1000, 1000, 0}, {5, 1000, 0, 1000}, {5, 0, 999, 1}, {5, 1, 0, 0}, {5, 0, 500, 500}};
-        bench.token(0);
-        bench.cell(5, 0, 0, 0);
-        for (int[] row : taken) {
-            bench.token(0);
-            checks.due("cell at an edge", bench.cell(row[0], row[1], row[2], row[3]), 1);
+        Checks.everywhere(bench, 1);
+        Checks.tokens(bench, 0, 1);
+        for (int[] row : WRONG) {
+            cell(bench, row);
+            checks.due("count(5) after cell" + Arrays.toString(row), bench.count(5), 2);
+        }
+        bench.token(9);
+        checks.due("cell of the tokens kept", bench.cell(0, 0, 0, 0), 0);
+        checks.due("where", bench.where(0, 0), 0);
+    }
+
+    private static void outOfRangeKeepsTheCell(Checks checks) {
+        CellTransport bench = Checks.wholePlane(1000, 1000, 0);
+        bench.token(7);
+        for (int[] row : WRONG) {
+            cell(bench, row);
+            bench.clear();
+            bench.run(1);
+            checks.due("where after cell" + Arrays.toString(row), bench.where(9, 9), 0);
+            checks.due("absorptions", bench.tally(0, 2), 1);
+            checks.due("tracks of density 1000", bench.tally(0, 0) <= 2 ? 1 : 0, 1);
         }
     }
 
@@ -68,18 +144,32 @@ public final class CellTest {
         {0, 1, 8, 8}, {0, 8, 1, 2}, {9, 0, 1, 2}, {0, 1, 2, 3, 4, 5, 6, 7}, {0, 1, 2, 3, 4, 8, 8, 8},
         {0, 10, 9, 1, 2}, {10, 0, 1, 8}};
 
-    private static void noRegionEmptiesTheBuffer(Checks checks) {
+    /** "Else the buffer is emptied in any case" */
+    private static void theBufferIsEmptiedInAnyCase(Checks checks) {
         CellTransport bench = new CellTransport();
         for (int[] tokens : NO_REGION) {
             Checks.tokens(bench, tokens);
-            checks.due("cell of " + java.util.Arrays.toString(tokens), bench.cell(0, 0, 0, 0), Checks.REFUSED);
+            checks.due("cell of " + Arrays.toString(tokens), bench.cell(0, 0, 0, 0), Checks.REFUSED);
             checks.due("count(5)", bench.count(5), 0);
+            checks.due("the next token", bench.token(0), 1);
+            bench.cell(1, 0, 0, 0);
+            checks.due("count(5) after a region", bench.count(5), 0);
+        }
+    }
+
+    /** "if it does not tell a region the answer is REFUSED and the cell is as before": not defined, here. */
+    private static void noRegionLeavesItUndefined(Checks checks) {
+        CellTransport bench = new CellTransport();
+        for (int[] tokens : NO_REGION) {
+            Checks.tokens(bench, tokens);
+            bench.cell(0, 0, 0, 0);
             checks.due("count(6)", bench.count(6), 0);
             checks.due("undefine(0)", bench.undefine(0), 0);
         }
     }
 
-    private static void aFailedCellStaysAsBefore(Checks checks) {
+    /** The same of a cell that is defined: its region, density and shares stay. */
+    private static void noRegionLeavesTheCellAsBefore(Checks checks) {
         CellTransport bench = Checks.wholePlane(1000, 1000, 0);
         for (int[] tokens : NO_REGION) {
             Checks.tokens(bench, tokens);
@@ -106,107 +196,5 @@ public final class CellTest {
         bench.run(1);
         checks.due("no absorptions with the new shares", bench.tally(0, 2), 0);
         checks.due("fissions with the new shares", bench.tally(0, 3), 12);
-    }
-
-    /** Surface 0 holds x at most 0, surface 1 holds y at most 0, surface 2 holds x + y at most 1. */
-    private static void threePlanes(CellTransport bench) {
-        bench.surface(0, 0, 1, 0, 0);
-        bench.surface(1, 0, 0, 1, 0);
-        bench.surface(2, 0, 1, 1, 1);
-    }
-
-    private static void operatorsHoldTheirPoints(Checks checks) {
-        CellTransport bench = new CellTransport();
-        threePlanes(bench);
-        int[][] regions = {{0, 1, 8}, {0, 1, 9}, {0, 10}, {0, 10, 1, 8}, {0, 1, 10, 8}, {0, 1, 8, 10},
-            {0, 1, 9, 10}, {0, 1, 2, 8, 9}, {0, 1, 9, 2, 8}, {0, 1, 8, 2, 9}, {0, 1, 2, 9, 8}, {0, 0, 10, 9}};
-        for (int form = 0; form < regions.length; form++) {
-            Checks.tokens(bench, regions[form]);
-            bench.cell(4, 0, 0, 0);
-            for (int x = -3; x <= 3; x++) {
-                for (int y = -3; y <= 3; y++) {
-                    boolean held = isHeld(form, x <= 0, y <= 0, x + y <= 1);
-                    checks.due("where in region " + form, bench.where(x, y), held ? 4 : Checks.OUTSIDE);
-                }
-            }
-        }
-    }
-
-    private static boolean isHeld(int form, boolean a, boolean b, boolean c) {
-        switch (form) {
-            case 0: return a && b;
-            case 1: return a || b;
-            case 2: return !a;
-            case 3: return !a && b;
-            case 4: return a && !b;
-            case 5: return !(a && b);
-            case 6: return !(a || b);
-            case 7: return a || (b && c);
-            case 8: return (a || b) && c;
-            case 9: return (a && b) || c;
-            case 10: return a && (b || c);
-            default: return true;
-        }
-    }
-
-    private static void eightTokensTellARegion(Checks checks) {
-        CellTransport bench = new CellTransport();
-        threePlanes(bench);
-        bench.surface(3, 1, 0, 0, 2);
-        Checks.tokens(bench, 0, 1, 2, 3, 8, 8, 9, 10);
-        checks.due("cell of eight tokens", bench.cell(1, 0, 0, 0), 0);
-        for (int x = -3; x <= 3; x++) {
-            for (int y = -3; y <= 3; y++) {
-                boolean held = !(x <= 0 || (y <= 0 && x + y <= 1 && x * x + y * y <= 4));
-                checks.due("where(" + x + ", " + y + ")", bench.where(x, y), held ? 1 : Checks.OUTSIDE);
-            }
-        }
-    }
-
-    private static void theLeastNumberHasThePoint(Checks checks) {
-        CellTransport bench = new CellTransport();
-        Checks.everywhere(bench, 0);
-        for (int number = 5; number >= 0; number--) {
-            bench.token(0);
-            bench.cell(number, 0, 0, 0);
-            checks.due("where", bench.where(0, 0), number);
-        }
-        for (int number = 0; number < 6; number++) {
-            bench.undefine(number);
-            checks.due("where", bench.where(0, 0), number + 1);
-        }
-    }
-
-    private static void undefineAnswers(Checks checks) {
-        CellTransport bench = new CellTransport();
-        for (int number = 0; number < 6; number++) {
-            bench.token(number);
-            bench.cell(number, 0, 0, 0);
-        }
-        for (int number : new int[] {-1, 6, 7, Integer.MAX_VALUE, Integer.MIN_VALUE}) {
-            checks.due("undefine(" + number + ")", bench.undefine(number), Checks.REFUSED);
-            checks.due("count(6)", bench.count(6), 6);
-        }
-        for (int number = 0; number < 6; number++) {
-            bench.token(1);
-            checks.due("undefine", bench.undefine(number), 1);
-            checks.due("count(6)", bench.count(6), 5);
-            checks.due("undefine again", bench.undefine(number), 0);
-            checks.due("the buffer stays", bench.count(5), 1);
-            checks.due("cell after undefine", bench.cell(number, 0, 0, 0), 0);
-        }
-    }
-
-    private static void countsStayWhenUndefined(Checks checks) {
-        CellTransport bench = Checks.wholePlane(1000, 1000, 0);
-        bench.run(2);
-        int tracks = bench.tally(0, 0);
-        bench.undefine(0);
-        checks.due("tracks stay", bench.tally(0, 0), tracks);
-        checks.due("collisions stay", bench.tally(0, 1), 2);
-        checks.due("absorptions stay", bench.tally(0, 2), 2);
-        bench.token(0);
-        bench.cell(0, 1000, 1000, 0);
-        checks.due("collisions stay when defined anew", bench.tally(0, 1), 2);
     }
 }

@@ -2,6 +2,8 @@
 final class Checks {
     static final int REFUSED = -1;
     static final int OUTSIDE = 6;
+    static final int MAX = Integer.MAX_VALUE;
+    static final int MIN = Integer.MIN_VALUE;
     static final int[] STEP_X = {1, 1, 0, -1, -1, -1, 0, 1};
     static final int[] STEP_Y = {0, 1, 1, 1, 0, -1, -1, -1};
 
@@ -13,6 +15,32 @@ final class Checks {
         if (got != want) {
             wrong++;
             System.out.println(call + " answered " + got + ", due is " + want);
+        }
+    }
+
+    /** The counts 0 to 4. */
+    void counts(CellTransport bench, int flown, int leaked, int cut, int lost, int histories) {
+        int[] want = {flown, leaked, cut, lost, histories};
+        for (int what = 0; what < want.length; what++) {
+            due("count(" + what + ")", bench.count(what), want[what]);
+        }
+    }
+
+    /** Tracks, collisions, absorptions and fissions of one cell. */
+    void tallies(CellTransport bench, int cell, int... want) {
+        for (int what = 0; what < 4; what++) {
+            due("tally(" + cell + ", " + what + ")", bench.tally(cell, what), want[what]);
+        }
+    }
+
+    /** Tallies, crossings and the counts 0 to 4. */
+    void allCountsAreZero(CellTransport bench) {
+        counts(bench, 0, 0, 0, 0, 0);
+        for (int cell = 0; cell < 6; cell++) {
+            tallies(bench, cell, 0, 0, 0, 0);
+            for (int to = 0; to < 6; to++) {
+                due("crossed(" + cell + ", " + to + ")", bench.crossed(cell, to), 0);
+            }
         }
     }
 
@@ -43,8 +71,24 @@ final class Checks {
         return bench;
     }
 
+    /** A bench whose cell 0 is the points with x at most the width. */
+    static CellTransport halfPlane(int width, int density, int absorption, int fission) {
+        CellTransport bench = new CellTransport();
+        bench.surface(0, 0, 1, 0, width);
+        bench.token(0);
+        bench.cell(0, density, absorption, fission);
+        return bench;
+    }
+
     static long next(long state) {
         return (state * 1103515245L + 12345L) % 2147483648L;
+    }
+
+    static long stateAfter(long state, int draws) {
+        for (int draw = 0; draw < draws; draw++) {
+            state = next(state);
+        }
+        return state;
     }
 
     /** The least state whose next draws are as told by the rows: below what, the least and the most it may be. */
@@ -74,6 +118,14 @@ final class Checks {
     }
 
     static int[] budget(int budget) {
-        return new int[] {2000, budget - 1, budget - 1};
+        return budget(budget, budget);
+    }
+
+    static int[] budget(int least, int most) {
+        return new int[] {2000, least - 1, most - 1};
+    }
+
+    static int[] share(int least, int most) {
+        return new int[] {1000, least, most};
     }
 }
